@@ -4,6 +4,7 @@ public final class HistoryTest {
 
     public static void main(String[] args) {
         undoOfEachAct();
+        eachActRecordsTheStateOfNow();
         undoBringsAllBack();
         oldestIsDropped();
         noActNoState();
@@ -45,6 +46,50 @@ public final class HistoryTest {
         DUE.is("undo()", x.undo(), 0);
         DUE.is("friction is back", x.pair(0, 4), 0);
         DUE.is("undo()", x.undo(), PlateSlabs.NONE);
+    }
+
+    /** Behind undo() nothing of the act before may be recorded once more. */
+    private static void eachActRecordsTheStateOfNow() {
+        for (int act = 0; act < 8; act++) {
+            PlateSlabs x = new PlateSlabs();
+            x.turnOn(3, 5);
+            x.turnOff(3);
+            x.keep();
+            x.put(3, 9);
+            DUE.is("act " + act, doAct(x, act) >= 0 ? 1 : 0, 1);
+            DUE.is("states", x.count(9), 4);
+            DUE.is("undo()", x.undo(), 3);
+            DUE.is("depth before act " + act, x.pair(3, 6), 9);
+            DUE.is("charge before act " + act, x.pair(3, 8), 200);
+            DUE.is("states", x.count(9), 3);
+        }
+    }
+
+    private static int doAct(PlateSlabs x, int act) {
+        switch (act) {
+            case 0:
+                return x.set(3, 0, 2);
+            case 1:
+                return x.turnOn(3, 6);
+            case 2:
+                x.turnOn(2, 6);
+                x.undo();
+                x.put(3, 8);
+                x.undo();
+                return x.couple(3, 2);
+            case 3:
+                return x.put(3, 7);
+            case 4:
+                return x.pass(1);
+            case 5:
+                return Due.performed(x, "d3=1;b3=4");
+            case 6:
+                return x.restore();
+            default:
+                x.restore();
+                x.undo();
+                return x.set(2, 1, 1);
+        }
     }
 
     private static void undoBringsAllBack() {

@@ -14,6 +14,7 @@ public final class PairsTest {
         coupleErrors();
         coupleBooksLossesBelowZero();
         coupleUpToTheMostCharge();
+        coupleJustToTheMostCharge();
         passMoves();
         passLeaks();
         passEndsAtLastTick();
@@ -293,6 +294,46 @@ public final class PairsTest {
         DUE.is("couple(0, 2): on comes first", x.couple(0, 2), PlateSlabs.NOT_POSSIBLE);
     }
 
+    /** Pair 1 gets a charge by its area, stuff, depth and voltage, and then a capacity of 40. */
+    private static void refill(PlateSlabs x, int area, int stuff, int depth, int voltage) {
+        x.set(1, 0, area);
+        x.set(1, 1, stuff);
+        x.put(1, depth);
+        x.turnOn(1, voltage);
+        x.turnOff(1);
+        x.set(1, 0, 1);
+        x.put(1, 0);
+    }
+
+    private static PlateSlabs nearlyFull(int first, int second, int third, int due) {
+        PlateSlabs x = new PlateSlabs();
+        charge(x, 0, first);
+        refill(x, 9, 9, 40, second);
+        x.couple(0, 1);
+        refill(x, 9, 9, 40, third);
+        DUE.is("nearly full", x.couple(0, 1), due);
+        x.keep();
+        return x;
+    }
+
+    private static void coupleJustToTheMostCharge() {
+        PlateSlabs x = nearlyFull(30, 29, 3, 196126);
+        refill(x, 1, 7, 34, 26);
+        DUE.is("first just 200000", x.couple(0, 1), 200000);
+        x.restore();
+        refill(x, 1, 6, 39, 27);
+        DUE.is("first 200001", x.couple(0, 1), PlateSlabs.FULL);
+        PlateSlabs y = nearlyFull(30, 26, 7, 199444);
+        refill(y, 5, 6, 3, 11);
+        DUE.is("other just 200000", y.couple(1, 0), 2469);
+        DUE.is("charge of the other", y.pair(0, 8), 200000);
+        DUE.is("its pull has room", y.pair(0, 11), 72L * 200000 * 200000 / (3240 * 3240));
+        y.restore();
+        refill(y, 2, 8, 7, 17);
+        DUE.is("other 200001", y.couple(1, 0), PlateSlabs.FULL);
+        DUE.is("the same turned round", y.couple(0, 1), 200000);
+    }
+
     private static void passMoves() {
         PlateSlabs x = new PlateSlabs();
         DUE.is("pass(0)", x.pass(0), PlateSlabs.BAD_VALUE);
@@ -330,9 +371,13 @@ public final class PairsTest {
         x.pass(1);
         DUE.is("410 less 1", x.pair(0, 8), 409);
         DUE.is("leaked 4100 less 4079", x.book(0, 2), 4100 - 409 * 409 / 41);
+        x.set(0, 5, 10);
+        x.pass(1);
+        DUE.is("409 less 4", x.pair(0, 8), 405);
+        DUE.is("the leaks add up", x.book(0, 2), 4100 - 405 * 405 / 41);
         x.set(0, 5, 2);
         x.pass(99);
-        DUE.is("less than 1 is nothing", x.pair(0, 8), 409);
+        DUE.is("less than 1 is nothing", x.pair(0, 8), 405);
         leakComesBeforeTheStep();
         leakIsBookedBeforeTheStep();
     }

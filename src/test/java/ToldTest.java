@@ -107,6 +107,8 @@ public final class ToldTest {
     private static void reasons() {
         PlateSlabs x = new PlateSlabs();
         DUE.is("no force", x.reason(0), 2);
+        x.turnOn(0, 1);
+        DUE.is("in by a force of 1", x.reason(0), 0);
         x.turnOn(0, 10);
         DUE.is("in", x.reason(0), 0);
         x.set(0, 4, 100);
@@ -339,6 +341,8 @@ public final class ToldTest {
         DUE.is("off, but charged", x.strongest(), 3);
         x.put(3, 40);
         DUE.is("as great, but higher", x.strongest(), 2);
+        x.turnOn(0, 1);
+        DUE.is("the lowest of three", x.strongest(), 0);
     }
 
     private static void counts(PlateSlabs x, int... want) {
