@@ -52,6 +52,7 @@ public final class HistoryTest {
     private static void eachActRecordsTheStateOfNow() {
         for (int act = 0; act < 8; act++) {
             PlateSlabs x = new PlateSlabs();
+            x.turnOn(2, 1);
             x.turnOn(3, 5);
             x.turnOff(3);
             x.keep();
@@ -60,6 +61,7 @@ public final class HistoryTest {
             DUE.is("states", x.count(9), 4);
             DUE.is("undo()", x.undo(), 3);
             DUE.is("depth before act " + act, x.pair(3, 6), 9);
+            DUE.is("battery before act " + act, x.pair(2, 10), 1);
             DUE.is("charge before act " + act, x.pair(3, 8), 200);
             DUE.is("states", x.count(9), 3);
         }
@@ -72,11 +74,7 @@ public final class HistoryTest {
             case 1:
                 return x.turnOn(3, 6);
             case 2:
-                x.turnOn(2, 6);
-                x.undo();
-                x.put(3, 8);
-                x.undo();
-                return x.couple(3, 2);
+                return x.couple(3, 1);
             case 3:
                 return x.put(3, 7);
             case 4:
@@ -86,9 +84,7 @@ public final class HistoryTest {
             case 6:
                 return x.restore();
             default:
-                x.restore();
-                x.undo();
-                return x.set(2, 1, 1);
+                return x.turnOff(2);
         }
     }
 
