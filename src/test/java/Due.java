@@ -16,6 +16,13 @@ final class Due {
         }
     }
 
+    void same(String call, long[] got, long[] want) {
+        is(call + ": numbers told", got.length, want.length);
+        for (int i = 0; i < want.length && i < got.length; i++) {
+            is(call + ": number " + i, got[i], want[i]);
+        }
+    }
+
     /** Types a whole text in place of the one that was. */
     static void write(PlateSlabs slabs, String text) {
         slabs.clearText();

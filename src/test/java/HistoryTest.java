@@ -6,6 +6,7 @@ public final class HistoryTest {
         undoOfEachAct();
         eachActRecordsTheStateOfNow();
         undoBringsAllBack();
+        restoreBringsAllBack();
         oldestIsDropped();
         noActNoState();
         keepAndRestore();
@@ -88,30 +89,39 @@ public final class HistoryTest {
         }
     }
 
-    private static void undoBringsAllBack() {
+    private static PlateSlabs mixed() {
         PlateSlabs x = new PlateSlabs();
         for (int which = 0; which < 6; which++) {
             x.set(2, which, 3);
         }
         Due.performed(x, "d2=4;b2=6;o2;c23;.5;b3=8;.2");
+        return x;
+    }
+
+    private static void undoBringsAllBack() {
+        PlateSlabs x = mixed();
         long[] before = all(x);
         Due.performed(x, "d2=9;b2=7;o2;o3;c23;.5;b3=9");
         x.undo();
         // The oldest of the four states was dropped for the trial's.
         before[before.length - 1] = 3;
-        same("undo()", all(x), before);
+        DUE.same("undo()", all(x), before);
         x.set(2, 0, 9);
         x.undo();
-        same("undo() of set", all(x), before);
+        DUE.same("undo() of set", all(x), before);
+    }
+
+    private static void restoreBringsAllBack() {
+        PlateSlabs x = mixed();
+        long[] before = all(x);
         x.keep();
         Due.performed(x, "d2=9;b2=7;o2;o3;c23;.5;b3=9");
         long[] behind = all(x);
         x.restore();
-        before[before.length - 1] = 4;
-        same("restore()", all(x), before);
+        DUE.same("restore()", all(x), before);
         x.undo();
         behind[behind.length - 1] = 3;
-        same("undo() of restore()", all(x), behind);
+        DUE.same("undo() of restore()", all(x), behind);
     }
 
     /** All that a state is, and the number of states behind it. */
@@ -130,12 +140,6 @@ public final class HistoryTest {
             told[at++] = x.count(what);
         }
         return told;
-    }
-
-    private static void same(String call, long[] got, long[] want) {
-        for (int i = 0; i < want.length; i++) {
-            DUE.is(call + " number " + i, got[i], want[i]);
-        }
     }
 
     private static void oldestIsDropped() {

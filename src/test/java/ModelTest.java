@@ -1,8 +1,12 @@
 /** Long runs of mixed calls: the class and the plain model must answer alike, and never throw. */
 public final class ModelTest {
     private static final Due DUE = new Due("ModelTest");
-    private static final int RUNS = 700;
+    private static final int RUNS = 2500;
+    // An object is used for at most 512 calls: the mixed ones, the last of which may be those of a trial,
+    // and those of tellAll().
     private static final int CALLS = 512;
+    private static final int CALLS_OF_A_TRIAL = 70;
+    private static final int CALLS_OF_ALL = 6 * 15 * 2 + 15;
     private static final int[] LEAST = {1, 1, 0, 0, 0, 0};
     private static final int[] GREATEST = {9, 9, 999, 40, 9999, 100};
     private static final int[] USUAL = {9, 9, 30, 40, 60, 30};
@@ -42,7 +46,8 @@ public final class ModelTest {
         seed = 977L * number + 5;
         x = new PlateSlabs();
         model = new Model();
-        for (calls = 0; calls < CALLS; calls++) {
+        calls = 0;
+        while (calls < CALLS - CALLS_OF_A_TRIAL - CALLS_OF_ALL) {
             switch (next(4)) {
                 case 0:
                     actOfPairs();
@@ -59,9 +64,11 @@ public final class ModelTest {
             }
         }
         tellAll();
+        DUE.is("run " + run + " has more calls than " + CALLS, calls > CALLS ? calls : 0, 0);
     }
 
     private void is(String call, long got, long want) {
+        calls++;
         DUE.is("run " + run + " call " + calls + " " + call, got, want);
     }
 
@@ -206,8 +213,10 @@ public final class ModelTest {
             for (int what = -1; what <= 13; what++) {
                 is("pair " + p + " " + what, x.pair(p, what), model.pair(p, what));
                 is("book " + p + " " + what, x.book(p, what), model.book(p, what));
-                is("count " + what, x.count(what), model.count(what));
             }
+        }
+        for (int what = -1; what <= 13; what++) {
+            is("count " + what, x.count(what), model.count(what));
         }
     }
 }
