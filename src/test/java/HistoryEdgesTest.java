@@ -20,6 +20,7 @@ public final class HistoryEdgesTest {
         restoreIsAnAct();
         restoreLeavesAllElse();
         restoreOfAllThatAStateIs();
+        undoOfAllThatATrialIs();
         DUE.end();
     }
 
@@ -264,29 +265,34 @@ public final class HistoryEdgesTest {
         }
     }
 
+    /** Each of the 55 numbers that a state is becomes another one, and is brought back. */
     private static void restoreOfAllThatAStateIs() {
-        PlateSlabs x = Made.rich();
+        PlateSlabs x = Made.leaking();
         long[] before = Sight.ofState(x);
         x.keep();
+        DUE.is("perform()", Due.performed(x, Made.ALL_OF_A_STATE), 12);
         for (int pair = 0; pair < 4; pair++) {
             for (int which = 0; which < 6; which++) {
-                x.set(pair, which, 8);
+                x.set(pair, which, 9);
             }
         }
-        Due.performed(x, "o0;o1;o2;o3;c01;c23;d0=1;d1=2;d2=3;d3=4;b0=9;.9;b1=8");
         long[] behind = Sight.ofState(x);
-        DUE.is("more than 45 of 55 numbers are changed", numbersThatDiffer(before, behind) > 45 ? 1 : 0, 1);
-        x.restore();
+        DUE.is("numbers that are changed", Sight.numbersThatDiffer(before, behind), 55);
+        DUE.is("restore()", x.restore(), 0);
         DUE.same("restore()", Sight.ofState(x), before);
-        x.undo();
+        DUE.is("undo()", x.undo(), 3);
         DUE.same("undo()", Sight.ofState(x), behind);
+        DUE.is("restore() once more", x.restore(), 0);
+        DUE.same("restore() once more", Sight.ofState(x), before);
     }
 
-    private static int numbersThatDiffer(long[] one, long[] other) {
-        int differ = 0;
-        for (int i = 0; i < one.length; i++) {
-            differ += one[i] != other[i] ? 1 : 0;
-        }
-        return differ;
+    /** All that a trial can change is brought back by one undo(). */
+    private static void undoOfAllThatATrialIs() {
+        PlateSlabs x = Made.leaking();
+        long[] before = Sight.ofState(x);
+        DUE.is("perform()", Due.performed(x, Made.ALL_OF_A_STATE), 12);
+        DUE.is("numbers that are changed", Sight.numbersThatDiffer(before, Sight.ofState(x)), 4 * 7 + 3);
+        DUE.is("undo()", x.undo(), 3);
+        DUE.same("undo()", Sight.ofState(x), before);
     }
 }

@@ -26,6 +26,7 @@ public final class LanguageTest {
         onlyTheLibraryTold(code);
         methodsAreShort(source);
         signsOfTheSource(source);
+        headingsOfTheInterface(source);
         DUE.end();
     }
 
@@ -66,6 +67,22 @@ public final class LanguageTest {
             if (sign != '\n' && (sign < ' ' || sign > '~')) {
                 DUE.is("sign " + (int) sign + " at " + i, 1, 0);
             }
+        }
+    }
+
+    /** "Ahead of the calls .. the interface says: ---- pairs." and so on: the calls stand behind their heading. */
+    private static void headingsOfTheInterface(String source) {
+        String[] inOrder = {"// ---- pairs\n", "set", "turnOn", "turnOff", "put", "couple", "pass",
+            "// ---- texts\n", "type", "clearText", "perform", "stopped", "// ---- history\n", "undo", "keep", "restore",
+            "// ---- what is told\n", "pair", "book", "reason", "force", "restsIn", "depthIn", "leastVoltage",
+            "drawingVoltage", "strongest", "count"};
+        int at = source.indexOf("public PlateSlabs()");
+        for (String next : inOrder) {
+            Pattern line = Pattern.compile(next.startsWith("//") ? next : "    public (int|long) " + next + "\\(");
+            Matcher matcher = line.matcher(source);
+            boolean isFound = at >= 0 && matcher.find(at);
+            DUE.is(next.trim() + " stands behind what is ahead of it", isFound ? 1 : 0, 1);
+            at = isFound ? matcher.end() : at;
         }
     }
 

@@ -1,5 +1,7 @@
 /** Objects in states that the tests of edges need, each made by few calls. */
 final class Made {
+    /** A trial that changes each number of leaking() that a trial can change. */
+    static final String ALL_OF_A_STATE = ".9;c01;c23;b0=1;b1=2;b2=3;b3=4;d0=5;d1=6;d2=7;d3=8;.1";
     private static final String MANY_TICKS = ".99;.99;.99;.99;.99;.99;.99;.99;.99;.99;.99;.99;.99;.99;.99";
 
     private Made() {
@@ -47,6 +49,17 @@ final class Made {
         charge(x, 1, area, stuff, depth, voltage);
         x.set(1, 0, 1);
         x.put(1, 0);
+    }
+
+    /** Four pairs that are off, charged, pulled in and leaking: ALL_OF_A_STATE changes all but their settings. */
+    static PlateSlabs leaking() {
+        PlateSlabs x = new PlateSlabs();
+        for (int pair = 0; pair < 4; pair++) {
+            charge(x, pair, 2 + pair, 3 + pair, 9 * pair, 20 + pair);
+            springs(x, pair, 5 + pair, 2 * pair + 1, 3 + pair);
+            x.set(pair, 5, 10 + pair);
+        }
+        return x;
     }
 
     /** At a tick from 99495 to 99999, with a text of 59 characters, and without charges. */

@@ -24,6 +24,14 @@ final class Sight {
         return seen;
     }
 
+    static int numbersThatDiffer(long[] one, long[] other) {
+        int differ = 0;
+        for (int i = 0; i < one.length; i++) {
+            differ += one[i] != other[i] ? 1 : 0;
+        }
+        return differ;
+    }
+
     /** All that an object tells, but for the latest stop. */
     static long[] ofAll(PlateSlabs x) {
         long[] seen = new long[4 * (13 + 5 + 5 + DEPTHS.length) + 1 + 11];

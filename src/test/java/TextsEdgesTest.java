@@ -21,6 +21,7 @@ public final class TextsEdgesTest {
         theLongestTrials();
         mostThings();
         thingsAreDoneInOrder();
+        couplingsOfTrials();
         theTextStays();
         allOrNothing();
         noneStopsNothing();
@@ -247,26 +248,26 @@ public final class TextsEdgesTest {
         fault("d0=00;", 4);
     }
 
+    /** A number is of digits alone: no other sign stands for one of them, nor for what may stand behind it. */
     private static void signsBehindNumbers() {
+        String[] numbers = {"b0=0", "b0=1", "b0=2", "b0=3", "b0=9", "b0=10", "b0=30", "d0=0", "d0=1", "d0=2", "d0=3",
+            "d0=4", "d0=9", "d0=29", "d0=40", ".1", ".2", ".8", ".9", ".10", ".99"};
         for (int code = 0; code < 256; code++) {
             char sign = (char) code;
             if (sign >= '0' && sign <= '9') {
                 continue;
             }
-            int more = sign == ';' ? 1 : 0;
-            fault("b0=0" + sign, 4 + more);
-            fault("b0=3" + sign, 4 + more);
-            fault("b0=30" + sign, 5 + more);
-            fault("d0=4" + sign, 4 + more);
-            fault("d0=40" + sign, 5 + more);
-            fault(".9" + sign, 2 + more);
-            fault(".99" + sign, 3 + more);
+            for (String front : new String[] {"b0=", "d0=", "."}) {
+                fault(front + sign, front.length());
+                fault(front + sign + "1", front.length());
+            }
+            for (String number : numbers) {
+                fault(number + sign, number.length() + (sign == ';' ? 1 : 0));
+            }
         }
         fault("b0=", 3);
         fault("d0=", 3);
         fault(".", 1);
-        fault("b0=;", 3);
-        fault(".;", 1);
     }
 
     /** "one or more of these with ";" between two" */
@@ -370,6 +371,26 @@ public final class TextsEdgesTest {
         return x.turnOn(0, 2);
     }
 
+    /** "c", a pair and a pair (they are coupled)": the first of them is the first one of couple() */
+    private static void couplingsOfTrials() {
+        for (int first = 0; first < 4; first++) {
+            for (int other = 0; other < 4; other++) {
+                if (first == other) {
+                    continue;
+                }
+                PlateSlabs x = new PlateSlabs();
+                Made.smallCharge(x, first, 41);
+                String text = "c" + first + other;
+                DUE.is(text, Due.performed(x, text), 1);
+                DUE.is(text + ": the first is rounded down", x.pair(first, 8), 20);
+                DUE.is(text + ": the other gets the rest", x.pair(other, 8), 21);
+                DUE.is(text + ": sparks of the first", x.book(first, 3), 10);
+                DUE.is(text + ": sparks of the other", x.book(other, 3), 11);
+                DUE.is(text + ": couplings", x.count(7), 1);
+            }
+        }
+    }
+
     private static void theTextStays() {
         PlateSlabs x = new PlateSlabs();
         Due.write(x, "d0=7;.3");
@@ -401,6 +422,18 @@ public final class TextsEdgesTest {
         DUE.is("all of it", Due.performed(x, "b0=30;b1=3;d3=2;.50;o0;o1;o2;o3;c01;c23;d1=40;c12"), 12);
         DUE.is("one act", x.count(9), 4);
         DUE.is("couplings", x.count(7), 4);
+        nothingOfAllThatAStateIs();
+    }
+
+    /** Each number that a trial can change was changed when it is stopped. */
+    private static void nothingOfAllThatAStateIs() {
+        PlateSlabs x = Made.leaking();
+        long[] before = Sight.ofState(x);
+        DUE.is("stopped at the end", Due.performed(x, Made.ALL_OF_A_STATE + ";c11"), PlateSlabs.NOT_POSSIBLE);
+        DUE.is("number", x.stopped(0), 12);
+        DUE.same("nothing is done", Sight.ofState(x), before);
+        DUE.is("not stopped", Due.performed(x, Made.ALL_OF_A_STATE), 12);
+        DUE.is("numbers that are changed", Sight.numbersThatDiffer(before, Sight.ofState(x)), 4 * 7 + 3);
     }
 
     /** "What would return NONE does not stop it" */

@@ -10,7 +10,9 @@ public final class ToldEdgesTest {
         eachNumberOfABook();
         theBookAddsUp();
         elseBelowZero();
-        greatBooks();
+        greatGifts();
+        greatLeaks();
+        greatSparks();
         countOfTheTick();
         countOfBatteries();
         countOfMoves();
@@ -161,24 +163,66 @@ public final class ToldEdgesTest {
         books(y, 1, 3240, -720, 0, 4000, -720 - 3240 - 4000);
     }
 
-    /** Energies are greater than an int holds. */
-    private static void greatBooks() {
+    /** "energies, each twice": what a battery gave, and what is else, is more than an int holds. */
+    private static void greatGifts() {
         PlateSlabs x = new PlateSlabs();
         x.set(0, 0, 9);
         x.set(0, 1, 9);
         x.put(0, 40);
-        for (int i = 0; i < 200; i++) {
-            x.turnOn(0, 30);
-            x.turnOn(0, 0);
+        Due.write(x, "b0=30;b0=0;b0=30;b0=0;b0=30;b0=0;b0=30;b0=0;b0=30;b0=0");
+        for (int i = 1; i <= 100; i++) {
+            x.perform();
+            DUE.is("given " + 5 * i + " times", x.book(0, 1), 5L * i * 60 * 97200);
+            DUE.is("all of it is else", x.book(0, 4), 5L * i * 60 * 97200);
         }
-        DUE.is("given 200 times", x.book(0, 1), 200L * 60 * 97200);
-        DUE.is("all of it is else", x.book(0, 4), 200L * 60 * 97200);
         x.turnOn(0, 30);
         x.turnOff(0);
         x.set(0, 0, 1);
         x.put(0, 0);
         DUE.is("97200 * 97200 / 40", x.book(0, 0), 236196000L);
-        DUE.is("else", x.book(0, 4), 201L * 60 * 97200 - 236196000L);
+        DUE.is("else", x.book(0, 4), 501L * 60 * 97200 - 236196000L);
+    }
+
+    /** Pair 0 has a charge of 97200, and a capacity of 40 by its stuff: nothing pulls its slab then. */
+    private static void greatCharge(PlateSlabs x) {
+        Made.charge(x, 0, 9, 9, 40, 30);
+        x.set(0, 0, 1);
+        x.set(0, 1, 1);
+    }
+
+    private static void greatLeaks() {
+        PlateSlabs x = new PlateSlabs();
+        x.set(0, 5, 100);
+        long leaked = 0;
+        for (int i = 1; i <= 12; i++) {
+            greatCharge(x);
+            x.pass(99);
+            long charge = 97200;
+            for (int tick = 0; tick < 99; tick++) {
+                charge -= charge / 10;
+            }
+            leaked += 236196000L - charge * charge / 40;
+            DUE.is("leaked behind " + i, x.book(0, 2), leaked);
+            DUE.is("else behind " + i, x.book(0, 4), x.book(0, 1) - x.book(0, 0) - leaked);
+        }
+        DUE.is("that is more than an int holds", leaked > Integer.MAX_VALUE ? 1 : 0, 1);
+    }
+
+    private static void greatSparks() {
+        PlateSlabs x = new PlateSlabs();
+        long lost = 0;
+        for (int i = 1; i <= 22; i++) {
+            greatCharge(x);
+            Made.charge(x, 1, 9, 9, 40, 0);
+            DUE.is("couple", x.couple(0, 1), 97200 * 40 / 3280);
+            long charge = 97200 * 40 / 3280;
+            long loss = 236196000L - charge * charge / 40 - (97200 - charge) * (97200 - charge) / 3240;
+            lost += Math.floorDiv(loss, 2L);
+            DUE.is("sparks of the first behind " + i, x.book(0, 3), lost);
+            DUE.is("sparks of the other behind " + i, x.book(1, 3), lost + (loss % 2) * i);
+            DUE.is("else behind " + i, x.book(1, 4), x.book(1, 1) - x.book(1, 0) - x.book(1, 3));
+        }
+        DUE.is("that is more than an int holds", lost > Integer.MAX_VALUE ? 1 : 0, 1);
     }
 
     private static void countOfTheTick() {
